@@ -26,7 +26,7 @@ final class Scene {
         return x;
     }
 
-    /** Edge i makes file 12 + i out of file i, with nothing between them; the files 0 to 11 are there. */
+    /** Edge i makes file 12 + i out of file i, which is there; no edge waits for another. */
     static FileBuilder fan(int edges, int pool) {
         FileBuilder x = new FileBuilder();
         for (int i = 0; i < edges; i++) {
@@ -45,11 +45,6 @@ final class Scene {
             ran++;
         }
         return ran;
-    }
-
-    static int runs(FileBuilder x, int e) {
-        x.finish(e, true);
-        return x.start();
     }
 
     static int mix(int h, int x) {
