@@ -280,13 +280,14 @@ public final class RecordLogTest {
         Scene.edge(y, 1, 0, 0, 0, 1);
         Scene.edge(y, 2, 0, 0, 0, 2);
         y.write(0, 1);
+        Scene.buildAll(y, 4);
         Scene.buildAll(y, 2);
-        y.spoil(3, 251);
-        y.spoil(4, 251);
-        y.cut(8);
+        y.spoil(11, 251);
+        y.spoil(12, 251);
+        y.cut(16);
         int time = 251 << 24 | 251 << 16 | 1;
         due.answers("a time of four bytes", y.file(1, 2), time);
-        for (int n = 0; n < 50; n++) {
+        for (int n = 0; n < 49; n++) {
             y.command(1, n);
             Scene.buildAll(y, 4);
         }

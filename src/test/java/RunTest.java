@@ -92,30 +92,30 @@ public final class RunTest {
 
     private void blocked() {
         for (int kind = 1; kind < 4; kind++) {
-            FileBuilder x = new FileBuilder();
-            x.edge(1, 0, 0);
-            x.link(0, kind, 1);
-            x.link(0, Scene.OUTPUT, 2);
-            Scene.edge(x, 2, 0, 0, 0, 1);
-            x.write(0, 1);
-            x.begin(4, 4, 4);
+            FileBuilder x = twoByKind(kind);
             due.answers("the maker first, kind " + kind, x.start(), 1);
             due.answers("blocked while it runs", x.start(), NONE);
             x.finish(1, true);
             due.answers("then the other", x.start(), 0);
-            FileBuilder y = new FileBuilder();
-            y.edge(1, 0, 0);
-            y.link(0, kind, 1);
-            y.link(0, Scene.OUTPUT, 2);
-            Scene.edge(y, 2, 0, 0, 0, 1);
-            y.write(0, 1);
-            y.begin(4, 4, 4);
+            FileBuilder y = twoByKind(kind);
             y.start();
             y.finish(1, false);
             due.answers("blocked by one that failed", y.start(), NONE);
             due.answers("which ends the build", y.state(), 3);
             due.answers("about the blocked one", y.about(0), 1);
         }
+    }
+
+    /** A build in which edge 0 waits by the kind for what edge 1 makes. */
+    private static FileBuilder twoByKind(int kind) {
+        FileBuilder x = new FileBuilder();
+        x.edge(1, 0, 0);
+        x.link(0, kind, 1);
+        x.link(0, Scene.OUTPUT, 2);
+        Scene.edge(x, 2, 0, 0, 0, 1);
+        x.write(0, 1);
+        x.begin(4, 4, 4);
+        return x;
     }
 
     private void blockedThroughPhonies() {
