@@ -47,6 +47,15 @@ final class Scene {
         return ran;
     }
 
+    /** How many edges a build has to run; one that has some is over at once, by a failure. */
+    static int toRun(FileBuilder x, int targets) {
+        int n = x.begin(targets, 1, 1);
+        if (n > 0) {
+            x.finish(x.start(), false);
+        }
+        return n;
+    }
+
     static int mix(int h, int x) {
         int g = (h ^ x) * 73244475;
         return g ^ (g >>> 15);
@@ -70,7 +79,7 @@ final class Scene {
         return text.toString();
     }
 
-    private static boolean isEdge(FileBuilder x, int e) {
+    static boolean isEdge(FileBuilder x, int e) {
         try {
             x.about(e);
             return true;
