@@ -1,35 +1,53 @@
+import java.util.NoSuchElementException;
 import java.util.TreeSet;
 
 /**
  * Tells all that an object shows and does from now on, so that two of them can be compared: what
- * cannot be seen at once (links, reads, depths, jobs) is seen by building. Keeps an object with a
- * short log below its 512 calls.
+ * cannot be seen at once (links, reads, depths, jobs) is seen by building. There are several lives,
+ * each for an object of its own, which keeps every object below its 512 calls.
  */
 final class Afterlife {
+    static final int LIVES = 4;
+
     private static final int NONE = FileBuilder.NONE;
-    private static final int LAST_TARGET = 18;
+    private static final int FIRST_ENDS_ILL = 1;
+    private static final int FILES_TOUCHED = 2;
+    private static final int AS_IT_STANDS = 3;
+    private static final int TARGETS = (1 << 19) - 1;
 
     private final FileBuilder x;
     private final StringBuilder text = new StringBuilder();
     private final TreeSet<Integer> running = new TreeSet<>();
     private boolean endsWell;
 
-    private Afterlife(FileBuilder x, boolean firstEndsWell) {
+    private Afterlife(FileBuilder x, int life) {
         this.x = x;
-        endsWell = firstEndsWell;
+        endsWell = life != FIRST_ENDS_ILL;
     }
 
-    static String of(FileBuilder x, boolean firstEndsWell) {
-        Afterlife life = new Afterlife(x, firstEndsWell);
-        life.text.append(Scene.sight(x));
-        life.findRunning();
-        life.runOn();
-        life.writeAll();
-        life.beginAll();
-        life.runOn();
-        life.tellFiles();
-        life.makeEdges();
-        return life.text.toString();
+    static String of(FileBuilder x, int life) {
+        Afterlife after = new Afterlife(x, life);
+        if (life == FILES_TOUCHED) {
+            after.endTheBuild();
+            after.buildAllAnew();
+            after.touchFiles();
+        } else if (life == AS_IT_STANDS) {
+            after.endTheBuild();
+            after.buildEachFile();
+        } else {
+            after.text.append(Scene.sight(x));
+            after.endTheBuild();
+            after.tellFiles();
+            after.buildAllAnew();
+            after.tellFiles();
+            after.makeEdges();
+        }
+        return after.text.toString();
+    }
+
+    private void endTheBuild() {
+        findRunning();
+        runOn();
     }
 
     private void findRunning() {
@@ -58,21 +76,44 @@ final class Afterlife {
         text.append(" state ").append(x.state());
     }
 
-    private void writeAll() {
-        for (int f = 0; f < 24; f++) {
-            try {
-                x.write(f, 7000 + f);
-            } catch (IllegalArgumentException byPhony) {
-                text.append(" not written ").append(f);
-            }
+    /** Files of lower numbers are newer, and no edge has a record: so all that is made is built. */
+    private void buildAllAnew() {
+        x.cut(0);
+        for (int f = 23; f >= 0; f--) {
+            write(f);
+        }
+        build(TARGETS);
+    }
+
+    private void write(int f) {
+        try {
+            x.write(f, 7000 + f);
+        } catch (IllegalArgumentException byPhony) {
+            text.append(" not written ").append(f);
         }
     }
 
-    private void beginAll() {
+    private void build(int targets) {
         try {
-            text.append(" begins ").append(x.begin((1 << LAST_TARGET + 1) - 1, 4, 4));
+            text.append(" begins ").append(x.begin(targets, 4, 4));
         } catch (UnsupportedOperationException cycle) {
             text.append(" cycle");
+        } catch (NoSuchElementException missing) {
+            text.append(" missing");
+        }
+        runOn();
+    }
+
+    private void buildEachFile() {
+        for (int f = 0; f < 24; f++) {
+            build(1 << f);
+        }
+    }
+
+    private void touchFiles() {
+        for (int f = 0; f < 24; f++) {
+            write(f);
+            build(TARGETS);
         }
     }
 

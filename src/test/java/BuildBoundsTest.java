@@ -21,6 +21,7 @@ public final class BuildBoundsTest {
         test.cycleNotReached();
         test.twoWaysAreNoCycle();
         test.missingTarget();
+        test.missingTargetThatIsNeeded();
         test.madeIsNotMissing();
         test.missingOfAPhony();
         test.missingNotReached();
@@ -209,6 +210,17 @@ public final class BuildBoundsTest {
             refusesMissing("target " + f, x, 1 << f);
             refusesMissing("target " + f + " of all", x, (1 << 24) - 1);
             due.answers("all others", x.begin((1 << 24) - 1 & ~(1 << f), 1, 1), 0);
+        }
+    }
+
+    private void missingTargetThatIsNeeded() {
+        due.sentence("a target, or a file that a reached edge waits for: also one that is both");
+        for (int kind = 1; kind < 4; kind++) {
+            FileBuilder x = new FileBuilder();
+            x.edge(1, 0, 0);
+            x.link(0, Scene.OUTPUT, 1);
+            x.link(0, kind, 0);
+            refusesMissing("target and kind " + kind, x, 3);
         }
     }
 

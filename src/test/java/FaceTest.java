@@ -8,12 +8,20 @@ import java.util.TreeSet;
 
 /** The class has the document's face and nothing beside it. */
 public final class FaceTest {
+    private static final String ARGUMENT = " IllegalArgumentException";
+    private static final String STATE = " IllegalStateException";
+    private static final String ELEMENT = " NoSuchElementException";
+    private static final String UNSUPPORTED = " UnsupportedOperationException";
+
     private static final String[] FACE = {
-        "int edge(int,int,int)", "void link(int,int,int)", "void reads(int,int,boolean)",
-        "void command(int,int)", "void pool(int,int)", "void write(int,int)", "void remove(int)",
-        "int begin(int,int,int)", "int start()", "int finish(int,boolean)", "int state()",
-        "int about(int)", "int file(int,int)", "int commandOf(int)", "int log(int)", "int cut(int)",
-        "boolean spoil(int,int)"};
+        "int edge(int,int,int)" + ARGUMENT + STATE, "void link(int,int,int)" + ARGUMENT + STATE,
+        "void reads(int,int,boolean)" + ARGUMENT + STATE, "void command(int,int)" + ARGUMENT + STATE,
+        "void pool(int,int)" + ARGUMENT + STATE, "void write(int,int)" + ARGUMENT + STATE,
+        "void remove(int)" + ARGUMENT + ELEMENT + STATE,
+        "int begin(int,int,int)" + ARGUMENT + STATE + UNSUPPORTED + ELEMENT, "int start()",
+        "int finish(int,boolean)" + ELEMENT, "int state()", "int about(int)" + ARGUMENT,
+        "int file(int,int)" + ARGUMENT, "int commandOf(int)" + ARGUMENT, "int log(int)",
+        "int cut(int)" + ARGUMENT + STATE, "boolean spoil(int,int)"};
 
     public static void main(String[] args) {
         Due due = new Due("FaceTest");
@@ -70,6 +78,10 @@ public final class FaceTest {
         for (Class<?> type : m.getParameterTypes()) {
             line.append(line.charAt(line.length() - 1) == '(' ? "" : ",").append(type.getName());
         }
-        return line.append(')').toString();
+        line.append(')');
+        for (Class<?> thrown : m.getExceptionTypes()) {
+            line.append(' ').append(thrown.getSimpleName());
+        }
+        return line.toString();
     }
 }

@@ -42,6 +42,7 @@ public final class LogBoundsTest {
         test.outputThatIsNoFile();
         test.checkBytesThatAreNone();
         test.timeOfFourBytes();
+        test.timeBelowZero();
         test.due.end();
     }
 
@@ -525,6 +526,21 @@ public final class LogBoundsTest {
             due.answers("the time", x.file(0, 2),
                     row[0] << 24 | row[1] << 16 | row[2] << 8 | row[3]);
             due.answers("the command", x.file(0, 3), 0);
+        }
+    }
+
+    /** The document has no other numbers than ints; four bytes are one, below 0 from 2^31 on. */
+    private void timeBelowZero() {
+        due.sentence("the NEWEST time (four bytes), as an int");
+        for (int high = 127; high <= 128; high++) {
+            FileBuilder x = Scene.row(1, RESTAT);
+            Scene.buildAll(x, 2);
+            x.write(0, 1000);
+            x.spoil(3, high);
+            x.spoil(7, (x.log(7) + high) % 251);
+            due.answers("cut", x.cut(8), 8);
+            due.answers("the time", x.file(1, 2), (high << 24) + 1);
+            due.answers("to run", Scene.toRun(x, 2), high - 127);
         }
     }
 }

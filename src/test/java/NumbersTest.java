@@ -24,6 +24,7 @@ public final class NumbersTest {
         test.mixWraps();
         test.mixOfNeeds();
         test.contents();
+        test.lastCall();
         test.due.end();
     }
 
@@ -317,5 +318,22 @@ public final class NumbersTest {
         x.write(1, 0);
         Scene.buildAll(x, 2);
         due.answers("content 0 of a file that is there stays", x.file(1, 1), 1);
+    }
+
+    private void lastCall() {
+        due.sentence("An object is used for at most 512 calls after it has been made");
+        FileBuilder x = new FileBuilder();
+        for (int n = 1; n < 512; n++) {
+            x.write(n % 24, n);
+        }
+        due.answers("the 512th call", x.file(511 % 24, 1), 511);
+        FileBuilder y = Scene.row(1, 0);
+        for (int n = 0; n < 504; n++) {
+            y.write(0, n);
+        }
+        y.begin(2, 1, 1);
+        y.start();
+        y.finish(0, true);
+        due.answers("the 512th call", y.file(1, 2), 505);
     }
 }

@@ -15,7 +15,7 @@ public final class RefusalTest {
     private static final int GENERATOR = 4;
     private static final int READER = 8;
 
-    private static final int EDGES = 8;
+    private static final int EDGES = 9;
     private static final int PHONY_EDGE = 2;
     private static final int[] NO_FILES = {-1, 24, 31, 32, Integer.MIN_VALUE, Integer.MAX_VALUE};
     private static final int[] NO_EDGES = {-1, EDGES, 11, 12, 32, Integer.MIN_VALUE,
@@ -60,10 +60,11 @@ public final class RefusalTest {
         Scene.edge(x, 65535, 0, 0, 5, 18);
         Scene.edge(x, 60, 0, 0, 20, 19);
         Scene.edge(x, 70, 0, 0, 19, 20);
+        Scene.edge(x, 80, GENERATOR, 2, 4, 11);
         for (int f = 0; f < 5; f++) {
             x.write(f, 100 + f);
         }
-        Scene.buildAll(x, 1 << 16 | 1 << 17);
+        Scene.buildAll(x, 1 << 11 | 1 << 16 | 1 << 17);
         x.write(0, 200);
         x.begin(1 << 16, 1, 1);
         x.start();
@@ -71,11 +72,12 @@ public final class RefusalTest {
         return x;
     }
 
-    /** Edge 0 runs, 1 and 3 wait for it, 4 may begin. */
+    /** Edge 0 runs, 1 and 3 wait for it, 4 may begin, and 8 then waits for room in its pool. */
     private static FileBuilder busy() {
         FileBuilder x = idle();
+        x.remove(11);
         x.remove(17);
-        x.begin(1 << 16 | 1 << 17, 3, 1);
+        x.begin(1 << 11 | 1 << 16 | 1 << 17, 3, 1);
         x.start();
         return x;
     }
@@ -90,17 +92,26 @@ public final class RefusalTest {
 
     private void refuses(String call, Class<? extends RuntimeException> want,
             Supplier<FileBuilder> made, Consumer<FileBuilder> run) {
-        for (int n = 0; n < 2; n++) {
-            FileBuilder asked = made.get();
-            due.refuses(call, want, () -> run.accept(asked));
-            due.answers("all after " + call, Afterlife.of(asked, n == 0),
-                    Afterlife.of(made.get(), n == 0));
-        }
+        changesNothing(call, made, x -> due.refuses(call, want, () -> run.accept(x)));
     }
 
+    /** A wrong argument is refused as such in a build, too. */
     private void refuses(String call, Class<? extends RuntimeException> want,
             Consumer<FileBuilder> run) {
         refuses(call, want, RefusalTest::idle, run);
+        if (want == ARGUMENT) {
+            refuses(call + " in a build", want, RefusalTest::busy, run);
+        }
+    }
+
+    private void changesNothing(String call, Supplier<FileBuilder> made,
+            Consumer<FileBuilder> run) {
+        for (int life = 0; life < Afterlife.LIVES; life++) {
+            FileBuilder asked = made.get();
+            run.accept(asked);
+            due.answers("all after " + call, Afterlife.of(asked, life),
+                    Afterlife.of(made.get(), life));
+        }
     }
 
     private void edge() {
@@ -210,7 +221,6 @@ public final class RefusalTest {
             refuses("write(" + f + ", 1)", ARGUMENT, x -> x.write(f, 1));
         }
         refuses("write of what a phony makes", ARGUMENT, x -> x.write(15, 1));
-        refuses("write of it in a build", ARGUMENT, RefusalTest::busy, x -> x.write(15, 1));
     }
 
     private void remove() {
@@ -285,6 +295,13 @@ public final class RefusalTest {
         busyRefuses("begin of what is missing", x -> x.begin(1 << 18, 1, 4));
         busyRefuses("cut(0)", x -> x.cut(0));
         busyRefuses("cut beyond the end", x -> x.cut(400));
+        refuses("cut when a READER has its record", STATE, () -> {
+            FileBuilder x = Scene.row(1, READER);
+            Scene.buildAll(x, 2);
+            Scene.edge(x, 5, 0, 0, 0, 2);
+            x.begin(4, 1, 1);
+            return x;
+        }, x -> x.cut(400));
         due.sentence("IllegalStateException also when no edge runs yet, but one may begin");
         refuses("write before the first start", STATE, () -> {
             FileBuilder x = idle();
@@ -340,7 +357,6 @@ public final class RefusalTest {
         due.sentence("about: IllegalArgumentException when there is none");
         for (int e : NO_EDGES) {
             refuses("about(" + e + ")", ARGUMENT, x -> x.about(e));
-            refuses("about(" + e + ") in a build", ARGUMENT, RefusalTest::busy, x -> x.about(e));
         }
         due.sentence("commandOf: IllegalArgumentException when there is none");
         for (int e : NO_EDGES) {
@@ -363,15 +379,15 @@ public final class RefusalTest {
         due.sentence("cut: IllegalArgumentException when n is below 0");
         refuses("cut(-1)", ARGUMENT, x -> x.cut(-1));
         refuses("cut(MIN)", ARGUMENT, x -> x.cut(Integer.MIN_VALUE));
-        refuses("cut(-1) in a build", ARGUMENT, RefusalTest::busy, x -> x.cut(-1));
     }
 
     /** Calls that refuse by their answer change nothing either. */
     private void answersThatRefuse() {
-        due.sentence("spoil: False, changing nothing, when there is no such byte");
-        int end = 8 * 5;
+        int end = 8 * 6;
+        due.answers("the last byte is one", idle().spoil(end - 1, 1), true);
         int[] noBytes = {-1, end, 400, Integer.MIN_VALUE, Integer.MAX_VALUE};
         for (int k : noBytes) {
+            due.sentence("spoil: False, changing nothing, when there is no such byte");
             changesNothing("spoil(" + k + ", 1)", RefusalTest::idle,
                     x -> due.answers("spoil(" + k + ", 1)", x.spoil(k, 1), false));
             due.sentence("log: NONE when there is none");
@@ -388,15 +404,5 @@ public final class RefusalTest {
         };
         changesNothing("start when all are blocked", full,
                 x -> due.answers("start when all are blocked", x.start(), FileBuilder.NONE));
-    }
-
-    private void changesNothing(String call, Supplier<FileBuilder> made,
-            Consumer<FileBuilder> run) {
-        for (int n = 0; n < 2; n++) {
-            FileBuilder asked = made.get();
-            run.accept(asked);
-            due.answers("all after " + call, Afterlife.of(asked, n == 0),
-                    Afterlife.of(made.get(), n == 0));
-        }
     }
 }

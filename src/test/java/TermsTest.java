@@ -19,6 +19,7 @@ public final class TermsTest {
         test.recordedForAReaderAlone();
         test.newestOfNothing();
         test.newestHasNoOrderOnly();
+        test.newestOfWhatIsNeededAndRead();
         test.newestEqualIsNotAbove();
         test.newestIsOfWhatStandsAtTheEnd();
         test.dirtyNeedAlone();
@@ -208,6 +209,17 @@ public final class TermsTest {
             int want = newest == 4 ? x.file(3, 1) : x.file(newest, 1);
             due.answers("NEWEST when " + newest + " is the newest", x.file(9, 2), want);
         }
+    }
+
+    private void newestOfWhatIsNeededAndRead() {
+        due.sentence("NEWEST: its needs and its recorded reads: also a file that is both");
+        FileBuilder x = Scene.row(1, READER);
+        x.reads(0, 0, true);
+        x.write(9, 1);
+        Scene.buildAll(x, 2);
+        due.answers("NEWEST", x.file(1, 2), 1);
+        x.write(0, 1);
+        due.answers("newer", Scene.toRun(x, 2), 1);
     }
 
     private void newestEqualIsNotAbove() {
