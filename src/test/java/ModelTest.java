@@ -1,6 +1,3 @@
-import java.util.ArrayList;
-import java.util.List;
-import java.util.NoSuchElementException;
 import java.util.Random;
 
 /** Long runs of drawn calls, each answered alike by the program and by the model; always the same runs. */
@@ -10,9 +7,8 @@ public final class ModelTest {
     private static final int SEEN = 9;
 
     private final Random draw;
-    private final FileBuilder x = new FileBuilder();
-    private final Model m = new Model();
-    private final List<String> calls = new ArrayList<>();
+    private final Twins twins = new Twins();
+    private final FileBuilder x = twins.program;
     private final int files;
     private final int edgesWanted;
     private final boolean tidy;
@@ -60,21 +56,16 @@ public final class ModelTest {
     private String go() {
         for (int n = 0; n < CALLS; n++) {
             String drawn = n < 6 * edgesWanted ? drawLayout(n) : drawCall();
-            calls.add(drawn);
-            String got = answer(drawn, true);
-            String want = answer(drawn, false);
-            if (!got.equals(want)) {
-                return calls + " answered " + got + ", the model says " + want;
+            String got = twins.ask(drawn);
+            if (n % 8 == 0 || n == CALLS - 1) {
+                twins.compare();
+            }
+            if (twins.fault() != null) {
+                return twins.fault();
             }
             count(drawn, got);
-            if (n % 8 == 0 || n == CALLS - 1) {
-                String fault = compareAll();
-                if (fault != null) {
-                    return calls + " then " + fault;
-                }
-            }
         }
-        met[3] += m.anew;
+        met[3] += twins.model.anew;
         return null;
     }
 
@@ -106,30 +97,6 @@ public final class ModelTest {
             }
             met[8] += running > 1 ? 1 : 0;
         }
-    }
-
-    private String compareAll() {
-        if (x.state() != m.state()) {
-            return "state() answered " + x.state();
-        }
-        for (int e = 0; e < edges; e++) {
-            if (x.about(e) != m.about(e) || x.commandOf(e) != m.commandOf(e)) {
-                return "about(" + e + ") or commandOf is not the model's";
-            }
-        }
-        for (int f = 0; f < 24; f++) {
-            for (int what = 0; what < 4; what++) {
-                if (x.file(f, what) != m.file(f, what)) {
-                    return "file(" + f + ", " + what + ") answered " + x.file(f, what);
-                }
-            }
-        }
-        for (int k = -1; k < 402; k++) {
-            if (x.log(k) != m.log(k)) {
-                return "log(" + k + ") answered " + x.log(k);
-            }
-        }
-        return null;
     }
 
     private int near(int bound) {
@@ -260,57 +227,5 @@ public final class ModelTest {
             }
         }
         return near(12);
-    }
-
-    private String answer(String drawn, boolean ofProgram) {
-        String[] words = drawn.split(" ");
-        int[] a = new int[4];
-        for (int k = 1; k < words.length; k++) {
-            a[k] = words[k].equals("yes") ? 1 : words[k].equals("no") ? 0 : Integer.parseInt(words[k]);
-        }
-        try {
-            return "" + (ofProgram ? ofProgram(words[0], a) : ofModel(words[0], a));
-        } catch (IllegalArgumentException | IllegalStateException | UnsupportedOperationException
-                | NoSuchElementException e) {
-            return "throws." + e.getClass().getSimpleName();
-        }
-    }
-
-    private int ofProgram(String name, int[] a) {
-        switch (name) {
-            case "edge": return x.edge(a[1], a[2], a[3]);
-            case "link": x.link(a[1], a[2], a[3]); return 0;
-            case "reads": x.reads(a[1], a[2], a[3] == 1); return 0;
-            case "command": x.command(a[1], a[2]); return 0;
-            case "pool": x.pool(a[1], a[2]); return 0;
-            case "write": x.write(a[1], a[2]); return 0;
-            case "remove": x.remove(a[1]); return 0;
-            case "begin": return x.begin(a[1], a[2], a[3]);
-            case "start": return x.start();
-            case "finish": return x.finish(a[1], a[2] == 1);
-            case "about": return x.about(a[1]);
-            case "log": return x.log(a[1]);
-            case "cut": return x.cut(a[1]);
-            default: return x.spoil(a[1], a[2]) ? 1 : 0;
-        }
-    }
-
-    private int ofModel(String name, int[] a) {
-        switch (name) {
-            case "edge": return m.edge(a[1], a[2], a[3]);
-            case "link": m.link(a[1], a[2], a[3]); return 0;
-            case "reads": m.reads(a[1], a[2], a[3] == 1); return 0;
-            case "command": m.command(a[1], a[2]); return 0;
-            case "pool": m.pool(a[1], a[2]); return 0;
-            case "write": m.write(a[1], a[2]); return 0;
-            case "remove": m.remove(a[1]); return 0;
-            case "begin": return m.begin(a[1], a[2], a[3]);
-            case "start": return m.start();
-            case "finish": return m.finish(a[1], a[2] == 1);
-            case "about": return m.about(a[1]);
-            case "log": return m.log(a[1]);
-            case "cut": return m.cut(a[1]);
-            default: return m.spoil(a[1], a[2]) ? 1 : 0;
-        }
     }
 }
